@@ -15,12 +15,15 @@ public final class AgainstPlainTest {
     private final PlainPlans plain = new PlainPlans();
     /** How far apart the numbers lie: the smaller, the more plans are equal. */
     private final int grain;
+    /** The dearer a skipped stop, the fuller the vehicles. */
+    private final int dear;
     private int calls = 0;
 
     private AgainstPlainTest(int number) {
         seed = number * 7919L + 17;
         name = "run " + number + ", call ";
         grain = number % 3 == 0 ? 1 : number % 3 == 1 ? 10 : 97;
+        dear = 1 + number % 5 * 4;
     }
 
     private int below(int bound) {
@@ -70,7 +73,8 @@ public final class AgainstPlainTest {
 
     private void setPenalty() {
         int stop = stop();
-        long cents = below(30) == 0 ? WILD_CENTS[below(WILD_CENTS.length)] : (long) below(50) * grain;
+        long cents = below(30) == 0 ? WILD_CENTS[below(WILD_CENTS.length)]
+                : (long) below(50) * grain * dear;
         due("penalty(" + stop + ", " + cents + ")",
                 number(real.penalty(stop, cents)), number(plain.penalty(stop, cents)));
     }

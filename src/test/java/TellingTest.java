@@ -252,6 +252,42 @@ public final class TellingTest {
         Due.no("before(0, 3) still", x.before(0, 3));
     }
 
+    /** Two chains of three are joined: the steps behind and ahead of the joint count as well. */
+    private static void promise9LongChains() {
+        RoundPlans x = withStops(7, 0);
+        int[][] told = {{0, 1}, {1, 2}, {3, 4}, {4, 5}, {2, 3}};
+        for (int[] p : told) {
+            Due.yes("before(" + p[0] + ", " + p[1] + ")", x.before(p[0], p[1]));
+        }
+        for (int a = 0; a < 6; a++) {
+            for (int b = 0; b < a; b++) {
+                Due.no("before(" + a + ", " + b + ") against the chain", x.before(a, b));
+            }
+        }
+        Due.yes("before(5, 6)", x.before(5, 6));
+        Due.no("before(6, 0) against six steps", x.before(6, 0));
+        Due.yes("before(0, 6)", x.before(0, 6));
+    }
+
+    /** Nothing takes any time, so only before() tells the order. */
+    private static void promise9AtSecondZero() {
+        RoundPlans x = withStops(3, 0);
+        x.vehicle(0, 0, 0, 1);
+        int[] places = {0, 1, 2, 7};
+        for (int from : places) {
+            for (int to : places) {
+                x.way(from, to, 0);
+            }
+        }
+        x.before(2, 1);
+        x.before(1, 0);
+        Due.is("all at second 0", x.run(), 0);
+        for (int k = 0; k < 3; k++) {
+            Due.is("2 1 0: at(0, " + k + ")", x.at(0, k), 2 - k);
+        }
+        Due.is("back at second 0", x.back(0), 0);
+    }
+
     /** 2 before 1 before 0, but with 1 skipped 0 may stand first: it was not told of these two. */
     private static void promise9ToldOfTheseTwo() {
         RoundPlans x = withStops(3, 0);
@@ -291,6 +327,8 @@ public final class TellingTest {
         promise7Fixed();
         promise8Apart();
         promise9Before();
+        promise9LongChains();
+        promise9AtSecondZero();
         promise9ToldOfTheseTwo();
         promise9OnTheSameVehicle();
         Due.end();
