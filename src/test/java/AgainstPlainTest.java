@@ -39,7 +39,9 @@ public final class AgainstPlainTest {
         return some(7);
     }
 
+    /** Each answer is one call: an object is used for 512 calls at most. */
     private void due(String call, long got, long want) {
+        calls++;
         Due.is(name + calls + ": " + call, got, want);
     }
 
@@ -106,25 +108,31 @@ public final class AgainstPlainTest {
 
     private void lookAtAll() {
         due("cost()", real.cost(), plain.cost());
-        for (int n = -1; n <= 8; n++) {
-            due("vehicleOf(" + n + ")", real.vehicleOf(n), plain.vehicleOf(n));
-            due("begun(" + n + ")", real.begun(n), plain.begun(n));
-            due("back(" + n + ")", real.back(n), plain.back(n));
-            due("saved(" + n + ")", real.saved(n), plain.saved(n));
-            for (int k = -1; k <= 8; k++) {
-                due("at(" + n + ", " + k + ")", real.at(n, k), plain.at(n, k));
+        for (int stop = -1; stop <= 7; stop++) {
+            due("vehicleOf(" + stop + ")", real.vehicleOf(stop), plain.vehicleOf(stop));
+            due("begun(" + stop + ")", real.begun(stop), plain.begun(stop));
+        }
+        for (int vehicle = -1; vehicle <= 3; vehicle++) {
+            due("back(" + vehicle + ")", real.back(vehicle), plain.back(vehicle));
+            due("saved(" + vehicle + ")", real.saved(vehicle), plain.saved(vehicle));
+            for (int k = 0; k <= 7; k++) {
+                due("at(" + vehicle + ", " + k + ")", real.at(vehicle, k), plain.at(vehicle, k));
             }
         }
+    }
+
+    private void lookAtWild() {
         int wild = WILD[below(WILD.length)];
+        int other = WILD[below(WILD.length)];
         due("vehicleOf(" + wild + ")", real.vehicleOf(wild), plain.vehicleOf(wild));
         due("begun(" + wild + ")", real.begun(wild), plain.begun(wild));
         due("back(" + wild + ")", real.back(wild), plain.back(wild));
         due("saved(" + wild + ")", real.saved(wild), plain.saved(wild));
-        due("at(0, " + wild + ")", real.at(0, wild), plain.at(0, wild));
+        due("at(" + wild + ", " + other + ")", real.at(wild, other), plain.at(wild, other));
+        due("cost()", real.cost(), plain.cost());
     }
 
     private void call() {
-        calls++;
         int kind = below(100);
         if (kind < 8) {
             addStop();
@@ -134,32 +142,42 @@ public final class AgainstPlainTest {
             setHours();
         } else if (kind < 45) {
             setPenalty();
-        } else if (kind < 85) {
+        } else if (kind < 82) {
             setWay();
         } else if (kind < 92) {
             setTie();
         } else if (kind < 96) {
-            due("run()", real.run(), plain.run());
-            lookAtAll();
+            lookAtWild();
         } else {
+            due("run()", real.run(), plain.run());
             lookAtAll();
         }
     }
 
+    /** Some start with ways of their own, with stops or vehicles, some with nothing. */
+    private void start(int number) {
+        for (int k = 0; k < 80 && number % 4 != 0; k++) {
+            setWay();
+        }
+        for (int k = 0; k < 7 && number % 2 == 0; k++) {
+            addStop();
+            setHours();
+            setPenalty();
+        }
+        for (int k = 0; k < number % 4; k++) {
+            addVehicle();
+        }
+    }
+
     public static void main(String[] args) {
-        for (int number = 0; number < 60 && Due.wrong() == 0; number++) {
+        for (int number = 0; number < 300 && Due.wrong() == 0; number++) {
             AgainstPlainTest test = new AgainstPlainTest(number);
-            // Some start with ways of their own and with all stops, some with nothing.
-            for (int k = 0; k < 120 && number % 4 != 0; k++) {
-                test.setWay();
-            }
-            for (int k = 0; k < 7 && number % 2 == 0; k++) {
-                test.addStop();
-                test.setHours();
-            }
-            for (int k = 0; k < 300 && Due.wrong() == 0; k++) {
+            test.start(number);
+            // The dearest step is a run() with a look at all, some 70 calls.
+            while (test.calls < 430 && Due.wrong() == 0) {
                 test.call();
             }
+            Due.yes(test.name + "512 calls at most", test.calls <= 512);
         }
         Due.end();
     }
