@@ -358,6 +358,24 @@ public final class TermsEdgesTest {
         Due.is("when it was told of these two: back(0)", x.back(0), 300);
     }
 
+    /** Each alone may ride, and all but stop 3 together. */
+    private static void noTwoAreApart() {
+        Due.sentence("Terms", "no two are apart");
+        RoundPlans x = Some.stops(7, 0, DEAR);
+        x.vehicle(0, 0, Some.DAY, 1);
+        for (int stop = 0; stop < 7; stop++) {
+            x.apart(3, stop, true);
+        }
+        Due.is("run()", x.run(), 1);
+        Due.same("all but stop 3", Some.round(x, 0), "0 1 2 4 5 6");
+        x.penalty(3, 6 * DEAR - 499);
+        x.run();
+        Due.same("200 for stop 3 and 700 for the others: a cent less", Some.round(x, 0), "3");
+        x.penalty(3, 6 * DEAR - 500);
+        x.run();
+        Due.same("the same cost: stop 0 is driven", Some.round(x, 0), "0 1 2 4 5 6");
+    }
+
     private static void noneIsFixedToAnother() {
         Due.sentence("Terms", "none is fixed to another vehicle");
         RoundPlans x = Some.stops(2, 1, DEAR);
@@ -400,6 +418,24 @@ public final class TermsEdgesTest {
         x.penalty(0, DEAR);
         x.hours(0, 0, 99, 0);
         Due.is("too late for it", x.run(), 1);
+    }
+
+    /** Any two of the three are back in time, but not all three. */
+    private static void aRoundOfJustThese() {
+        Due.sentence("Terms", "For each vehicle with stops there is a round of just these");
+        RoundPlans x = Some.stops(3, 0, DEAR);
+        x.vehicle(0, 0, 399, 1);
+        Due.is("run()", x.run(), 1);
+        Due.same("vehicles", Some.vehicles(x, 3), "0 0 3");
+        Due.same("round", Some.round(x, 0), "0 1");
+        x.vehicle(0, 0, 400, 2);
+        Due.is("run() with a second more", x.run(), 0);
+        Due.same("vehicles", Some.vehicles(x, 3), "0 0 1");
+        x.apart(0, 1, true);
+        x.run();
+        Due.same("vehicles, 0 and 1 apart", Some.vehicles(x, 3), "0 1 0");
+        Due.same("round of vehicle 0", Some.round(x, 0), "0 2");
+        Due.same("round of vehicle 1", Some.round(x, 1), "1");
     }
 
     /** A second sooner, by the last rows of all; else the first row. */
@@ -565,9 +601,11 @@ public final class TermsEdgesTest {
         kilogramsAtMostItsMost();
         thatOneStandsFirst();
         asToldOfTheseTwo();
+        noTwoAreApart();
         noneIsFixedToAnother();
         rateForEachSecond();
         alsoAFixedOneMayBeSkipped();
+        aRoundOfJustThese();
         theOneThatIsBackFirst();
         ofThoseTheFirstOne();
         roundsAndPenalties();
